@@ -14,7 +14,7 @@ public final class SlideStage {
     private static final int MOST_EFFECTS = 24;
     private static final int MOST_PARAGRAPHS = 4;
     private static final int MOST_WORDS = 4;
-    private static final int MOST_LINES = 16;
+    private static final int MOST_LINES = MOST_PARAGRAPHS * MOST_WORDS;
 
     private static final int MASTER = 0;
     private static final int SLIDE = 2;
@@ -226,8 +226,9 @@ public final class SlideStage {
             throw new UnsupportedOperationException("no more effects");
         }
         Effect before = lastEffect(found.page);
-        Effect made = new Effect(found.page, kind, buildBehind(before, trigger));
-        made.plan(baseBehind(before, trigger), delay, duration);
+        int build = buildBehind(before, trigger);
+        int base = baseBehind(before, trigger);
+        Effect made = new Effect(found.page, kind, build, base, delay, duration);
         effects.add(made);
         found.page.effects.add(made);
         found.effects.add(made);
@@ -651,23 +652,20 @@ public final class SlideStage {
         final Page slide;
         final int kind;
         final int build;
-        int base = 0;
-        int start = 0;
-        int end = 0;
-        int duration = 0;
+        final int base;
+        final int start;
+        final int end;
+        final int duration;
         int amount = 0;
 
-        Effect(Page slide, int kind, int build) {
+        Effect(Page slide, int kind, int build, int base, int delay, int duration) {
             this.slide = slide;
             this.kind = kind;
             this.build = build;
-        }
-
-        void plan(int baseTime, int delay, int timeTaken) {
-            base = baseTime;
-            start = baseTime + delay;
-            end = start + timeTaken;
-            duration = timeTaken;
+            this.base = base;
+            this.start = base + delay;
+            this.end = base + delay + duration;
+            this.duration = duration;
         }
     }
 
