@@ -222,6 +222,10 @@ public final class PictureTest {
         Check.due("24 nearly all of it", 200 << 16 | 1 << 8 | 100, s.pixel(0, 0));
         s.set(1, 5, 255);
         Check.due("24 all of it", 0xC80064, s.pixel(0, 0));
+        SlideStage faint = Stages.withOneShape();
+        faint.set(0, 4, 0x7F8000);
+        faint.set(0, 5, 1);
+        Check.due("24 from 128 parts of 255 on it counts as one more", 0xFEFFFE, faint.pixel(0, 0));
     }
 
     private static void orderOfPages() {
