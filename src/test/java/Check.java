@@ -9,6 +9,20 @@ final class Check {
     private Check() {
     }
 
+    /** Tests one sentence of the document, quoted, and says so if it is broken. */
+    static void sentence(String where, String words, Call test) {
+        int before = wrong;
+        try {
+            test.run();
+        } catch (RuntimeException e) {
+            wrong++;
+            System.out.println("a call threw " + e);
+        }
+        if (wrong != before) {
+            System.out.println("BROKEN, " + where + ": " + words);
+        }
+    }
+
     static void due(String call, long want, long got) {
         if (got != want) {
             wrong++;
@@ -18,6 +32,13 @@ final class Check {
 
     static void due(String call, boolean want, boolean got) {
         due(call, want ? 1 : 0, got ? 1 : 0);
+    }
+
+    static void due(String call, String want, String got) {
+        if (!got.equals(want)) {
+            wrong++;
+            System.out.println(call + " answered " + got + ", due is " + want);
+        }
     }
 
     static void out(String call, Call run) {
@@ -47,6 +68,14 @@ final class Check {
             wrong++;
             System.out.println(call + " threw " + got + ", due is " + want);
         }
+    }
+
+    /** Numbers that are not least .. greatest: next to it, far off, and alike in their low bits. */
+    static int[] beyond(int least, int greatest) {
+        return new int[] {
+            least - 1, greatest + 1, greatest + 256, Integer.MIN_VALUE, Integer.MIN_VALUE + greatest + 1,
+            Integer.MAX_VALUE
+        };
     }
 
     /** Ends the test: with exit code 1 if an answer was not the one that was due. */
