@@ -102,6 +102,8 @@ public final class EffectEdgesTest {
             Check.due("all on one shape", n, one.effect(0, n % 4, n % 3, 0, 0));
             Check.due("on ten slides", n, each.effect(n % 10, n % 4, n % 3, 50, 50));
         }
+        Check.unsupported("a 25th on one shape", () -> one.effect(0, ENTER, WITH, 0, 0));
+        Check.unsupported("a 25th on ten slides", () -> each.effect(9, ENTER, WITH, 0, 0));
         Check.due("the last one", NONE, one.timing(23, 4));
         Check.due("the last one", NONE, each.timing(23, 4));
         Check.out("none behind it", () -> one.timing(24, 0));
@@ -160,6 +162,8 @@ public final class EffectEdgesTest {
             Check.due("X by " + amount, amount, s.now(0, X));
             Check.due("Y by " + -amount, -amount, s.now(0, Y));
         }
+        Check.argument("-41", () -> s.amount(0, -41));
+        Check.argument("41", () -> s.amount(1, 41));
     }
 
     private static void threeTriggers() {
@@ -276,8 +280,11 @@ public final class EffectEdgesTest {
         Check.due("not of another slide", 9, s.state(4));
         s.effect(0, MOVE_X, CLICK, 20, 20);
         Check.due("not of another build", 9, s.state(4));
+        s.effect(0, MOVE_X, CLICK, 1, 1);
         s.click();
         Check.due("of that build", 40, s.state(4));
+        s.click();
+        Check.due("of a shorter build behind it", 2, s.state(4));
     }
 
     private static void lengthWithoutEffects() {

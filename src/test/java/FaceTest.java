@@ -14,29 +14,29 @@ public final class FaceTest {
     private static final String UNSUPPORTED = "UnsupportedOperationException";
 
     private static final String[] METHODS = {
-        "int page(2) " + list(ARGUMENT, OUT, STATE),
-        "int shape(2) " + list(OUT, ARGUMENT, STATE, UNSUPPORTED),
-        "void theme(2) " + list(ARGUMENT),
-        "void set(3) " + list(OUT, ARGUMENT),
-        "boolean unset(2) " + list(OUT, ARGUMENT),
-        "int resolved(2) " + list(OUT, ARGUMENT),
-        "int origin(2) " + list(OUT, ARGUMENT),
-        "int binding(1) " + list(OUT),
-        "int write(3) " + list(OUT, ARGUMENT, STATE),
-        "int scale(1) " + list(OUT),
-        "int lines(1) " + list(OUT),
-        "int line(3) " + list(OUT),
-        "int number(2) " + list(OUT),
-        "int effect(5) " + list(OUT, ARGUMENT, STATE, UNSUPPORTED),
-        "void amount(2) " + list(OUT, ARGUMENT),
-        "int timing(2) " + list(OUT),
-        "boolean click(0) " + list(),
-        "boolean back(0) " + list(),
-        "void jump(1) " + list(OUT),
-        "void tick(1) " + list(ARGUMENT),
-        "int state(1) " + list(),
-        "int now(2) " + list(OUT, ARGUMENT),
-        "int pixel(2) " + list(),
+        "int page(int, int) " + list(ARGUMENT, OUT, STATE),
+        "int shape(int, int) " + list(OUT, ARGUMENT, STATE, UNSUPPORTED),
+        "void theme(int, int) " + list(ARGUMENT),
+        "void set(int, int, int) " + list(OUT, ARGUMENT),
+        "boolean unset(int, int) " + list(OUT, ARGUMENT),
+        "int resolved(int, int) " + list(OUT, ARGUMENT),
+        "int origin(int, int) " + list(OUT, ARGUMENT),
+        "int binding(int) " + list(OUT),
+        "int write(int, int, int) " + list(OUT, ARGUMENT, STATE),
+        "int scale(int) " + list(OUT),
+        "int lines(int) " + list(OUT),
+        "int line(int, int, int) " + list(OUT),
+        "int number(int, int) " + list(OUT),
+        "int effect(int, int, int, int, int) " + list(OUT, ARGUMENT, STATE, UNSUPPORTED),
+        "void amount(int, int) " + list(OUT, ARGUMENT),
+        "int timing(int, int) " + list(OUT),
+        "boolean click() " + list(),
+        "boolean back() " + list(),
+        "void jump(int) " + list(OUT),
+        "void tick(int) " + list(ARGUMENT),
+        "int state(int) " + list(),
+        "int now(int, int) " + list(OUT, ARGUMENT),
+        "int pixel(int, int) " + list(),
     };
 
     public static void main(String[] args) {
@@ -82,21 +82,35 @@ public final class FaceTest {
     }
 
     private static void fields() {
+        int seen = 0;
         for (Field field : SlideStage.class.getDeclaredFields()) {
             int modifiers = field.getModifiers();
-            Check.due(field + " is private", !field.getName().equals("NONE"), Modifier.isPrivate(modifiers));
+            boolean isNone = field.getName().equals("NONE");
+            Check.due(field + " is private", !isNone, Modifier.isPrivate(modifiers));
             if (Modifier.isStatic(modifiers)) {
                 Check.due(field + " is final", true, Modifier.isFinal(modifiers));
             }
+            if (isNone) {
+                seen++;
+                Check.due("NONE", "public static final int SlideStage.NONE", field.toString());
+                Check.due("NONE", -1, SlideStage.NONE);
+            }
         }
+        Check.due("constants of the face", 1, seen);
     }
 
     private static String told(Method method) {
-        String[] thrown = new String[method.getExceptionTypes().length];
-        for (int i = 0; i < thrown.length; i++) {
-            thrown[i] = method.getExceptionTypes()[i].getSimpleName();
+        String takes = String.join(", ", namesOf(method.getParameterTypes()));
+        return method.getReturnType() + " " + method.getName() + "(" + takes + ") "
+                + list(namesOf(method.getExceptionTypes()));
+    }
+
+    private static String[] namesOf(Class<?>[] types) {
+        String[] names = new String[types.length];
+        for (int i = 0; i < names.length; i++) {
+            names[i] = types[i].getSimpleName();
         }
-        return method.getReturnType() + " " + method.getName() + "(" + method.getParameterCount() + ") " + list(thrown);
+        return names;
     }
 
     private static String list(String... names) {

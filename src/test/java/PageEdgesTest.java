@@ -106,6 +106,8 @@ public final class PageEdgesTest {
     private static void twelvePages() {
         for (int kind = MASTER; kind <= SLIDE; kind++) {
             SlideStage s = twelvePagesMostlyOf(kind);
+            int thirteenth = kind;
+            Check.state("a thirteenth", () -> s.page(thirteenth, thirteenth - 1));
             Check.due("a shape on the twelfth", 0, s.shape(11, NONE));
             Check.out("a shape on a thirteenth", () -> s.shape(12, NONE));
         }
@@ -226,6 +228,8 @@ public final class PageEdgesTest {
             Check.due("all on one page", n, one.shape(SLIDE, NONE));
             Check.due("two on each of twelve", n, each.shape(n % 12, n < 12 ? NONE : 7));
         }
+        Check.unsupported("a 25th on one page", () -> one.shape(SLIDE, NONE));
+        Check.unsupported("a 25th on twelve", () -> each.shape(0, 0));
         Check.due("the last one", 4, one.resolved(23, 6));
         Check.due("the last one", 4, each.resolved(23, 6));
         Check.out("none behind it", () -> one.resolved(24, 6));
@@ -241,6 +245,7 @@ public final class PageEdgesTest {
         for (int slot = 0; slot < 8; slot++) {
             Check.due("slot " + slot, 2 * slot, s.binding(2 * slot + 1));
         }
+        Check.argument("no slot 8", () -> s.shape(SLIDE, 8));
         for (int n = 16; n < 24; n++) {
             Check.due("free beside them", n, s.shape(SLIDE, NONE));
         }

@@ -47,6 +47,7 @@ public final class RefusalEdgesTest {
         s.set(2, 2, 12);
         s.set(3, 5, 100);
         s.set(3, 1, 7);
+        s.set(4, 4, 0x0000FF);
         s.write(2, 0, 0x030405);
         s.write(2, 1, 0x0202);
         s.effect(2, 2, 1, 0, 3);
@@ -73,6 +74,8 @@ public final class RefusalEdgesTest {
         for (int p = 0; p < 4; p++) {
             s.write(0, p % 3, 0x0203);
         }
+        s.set(0, 0, 12);
+        s.set(23, 4, 0x0000FF);
         s.click();
         s.tick(5);
         return s;

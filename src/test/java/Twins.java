@@ -85,11 +85,14 @@ final class Twins {
     private void lookAtText(int shape) {
         note("scale " + shape, () -> stage.scale(shape));
         note("lines " + shape, () -> stage.lines(shape));
-        int last = Math.min(3, stage.lines(shape) - 1);
-        for (int k = 0; k <= last; k++) {
+        int lines = stage.lines(shape);
+        for (int k = 0; k < lines; k++) {
             int asked = k;
             note("line " + shape + " " + k, () -> stage.line(shape, asked, 3));
-            note("number " + shape + " " + k, () -> stage.number(shape, asked));
+        }
+        for (int p = 0; lines > 0 && p < 4; p++) {
+            int paragraph = p;
+            note("number " + shape + " " + p, () -> stage.number(shape, paragraph));
         }
     }
 
@@ -127,9 +130,17 @@ final class Twins {
             note("back", () -> stage.back() ? 1 : 0);
             note("time", () -> stage.state(2));
         }
-        for (int n = 0; n < 12; n++) {
+        for (int n = 0; n < 6; n++) {
             note("click", () -> stage.click() ? 1 : 0);
             note("slide", () -> stage.state(0));
+        }
+        boolean there = true;
+        for (int k = 0; there; k++) {
+            int slide = k;
+            there = note("jump to " + k, () -> {
+                stage.jump(slide);
+                return slide;
+            });
         }
     }
 
