@@ -63,6 +63,8 @@ final class Check {
             run.run();
         } catch (RuntimeException e) {
             got = e.getClass();
+            // Rule 7 of the language: only a throw statement of the program's own may throw.
+            due(call + " threw from", "SlideStage", e.getStackTrace()[0].getClassName());
         }
         if (got != want) {
             wrong++;
