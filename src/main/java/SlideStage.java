@@ -73,13 +73,14 @@ public final class SlideStage {
         if (!isWithin(kind, MASTER, SLIDE)) {
             throw new IllegalArgumentException("no such kind of page");
         }
-        if (!mayBeParent(kind, parent)) {
+        Page above = findPage(parent);
+        if (kind == MASTER ? parent != NONE : !isOfKind(above, kind - 1)) {
             throw new IndexOutOfBoundsException("no such parent for this kind");
         }
         if (pages.size() >= MOST_PAGES) {
             throw new IllegalStateException("no more pages");
         }
-        Page made = new Page(kind, kind == MASTER ? null : pages.get(parent));
+        Page made = new Page(kind, above);
         pages.add(made);
         if (kind == SLIDE) {
             addSlide(made);
@@ -90,13 +91,13 @@ public final class SlideStage {
     public int shape(int page, int slot)
             throws IndexOutOfBoundsException, IllegalArgumentException, IllegalStateException,
                     UnsupportedOperationException {
-        if (page < 0 || page >= pages.size()) {
+        Page home = findPage(page);
+        if (home == null) {
             throw new IndexOutOfBoundsException("no such page");
         }
         if (!isWithin(slot, NONE, LAST_SLOT)) {
             throw new IllegalArgumentException("no such slot");
         }
-        Page home = pages.get(page);
         if (shapeInSlot(home, slot) != null) {
             throw new IllegalStateException("the slot is taken");
         }
@@ -365,11 +366,12 @@ public final class SlideStage {
         return effects.get(effect);
     }
 
-    private boolean mayBeParent(int kind, int parent) {
-        if (kind == MASTER) {
-            return parent == NONE;
-        }
-        return parent >= 0 && parent < pages.size() && pages.get(parent).kind == kind - 1;
+    private Page findPage(int page) {
+        return page >= 0 && page < pages.size() ? pages.get(page) : null;
+    }
+
+    private static boolean isOfKind(Page page, int kind) {
+        return page != null && page.kind == kind;
     }
 
     private void addSlide(Page slide) {
@@ -588,16 +590,16 @@ public final class SlideStage {
             Shape shape = page.shapes.get(i);
             // A shape with a slot on a layout or a master is only a pattern for those below it.
             boolean seen = page.kind == SLIDE || shape.slot == NONE;
-            if (seen && covers(shape, X, WIDTH, x) && covers(shape, Y, HEIGHT, y)) {
+            if (seen && covers(valueNow(shape, X), resolve(shape, WIDTH), x)
+                    && covers(valueNow(shape, Y), resolve(shape, HEIGHT), y)) {
                 color = blend(resolve(shape, COLOR), color, valueNow(shape, ALPHA));
             }
         }
         return color;
     }
 
-    private boolean covers(Shape shape, int place, int extent, int point) {
-        int from = valueNow(shape, place);
-        return point >= from && point < from + resolve(shape, extent);
+    private static boolean covers(int from, int extent, int point) {
+        return point >= from && point < from + extent;
     }
 
     private static int blend(int over, int under, int alpha) {
